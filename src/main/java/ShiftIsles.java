@@ -78,7 +78,7 @@ public final class ShiftIsles {
         if (text.wrongAt() != NONE) {
             throw new IllegalStateException("the text is not a game");
         }
-        state.clear();
+        state.resetSettings();
         draws.startWith(text.seed());
         state.deal(text.players(), draws);
         int leftOut = 0;
@@ -96,15 +96,13 @@ public final class ShiftIsles {
 
     /** Does the move of the text that begins there; false if it is not possible. */
     private boolean doMoveAt(int i) {
-        switch (text.signAt(i)) {
-            case 's':
-                int direction = text.signAt(i + 3) == '+' ? 1 : 0;
-                return state.tryShift(text.digitAt(i + 1), text.digitAt(i + 2), direction);
-            case 'g':
-                return state.tryGo(text.digitAt(i + 1));
-            default:
-                return state.tryLock(text.digitAt(i + 1));
+        char letter = text.signAt(i);
+        int first = text.digitAt(i + 1);
+        if (letter == 's') {
+            int direction = text.signAt(i + 3) == '+' ? 1 : 0;
+            return state.tryShift(first, text.digitAt(i + 2), direction);
         }
+        return letter == 'g' ? state.tryGo(first) : state.tryLock(first);
     }
 
     // ---- what there is
@@ -524,10 +522,6 @@ public final class ShiftIsles {
             openings = new int[TILES];
             treasures = new int[TILES];
             order = new int[TREASURES];
-            ship = MIDDLE;
-            locked = NONE;
-            lastLine = NONE;
-            lastDirection = NONE;
         }
 
         void copyFrom(Board other) {
@@ -654,8 +648,8 @@ public final class ShiftIsles {
         private static void cycle(int[] row, int first, int stride, int ahead) {
             int second = first + stride;
             int third = second + stride;
-            if (first < 0 || second < 0 || second >= row.length || third < 0
-                    || third >= row.length) {
+            if (first < 0 || first >= row.length || second < 0 || second >= row.length
+                    || third < 0 || third >= row.length) {
                 return;
             }
             for (int i = 0; i < ahead; i++) {
@@ -767,18 +761,8 @@ public final class ShiftIsles {
             winner = NONE;
         }
 
-        void clear() {
+        void resetSettings() {
             System.arraycopy(FIRST_SETTINGS, 0, settings, 0, SETTINGS);
-            players = 0;
-            toStart();
-        }
-
-        private void toStart() {
-            turn = 0;
-            shifted = false;
-            ended = 0;
-            over = false;
-            winner = NONE;
         }
 
         void copyFrom(Game other) {
@@ -796,7 +780,11 @@ public final class ShiftIsles {
 
         void deal(int count, Draws draws) {
             players = count;
-            toStart();
+            turn = 0;
+            shifted = false;
+            ended = 0;
+            over = false;
+            winner = NONE;
             for (int p = 0; p < MOST_PLAYERS && p < count; p++) {
                 boards[p].deal(draws);
             }
@@ -942,9 +930,6 @@ public final class ShiftIsles {
 
         Rule() {
             scratch = new Board();
-            player = NONE;
-            line = NONE;
-            direction = NONE;
         }
 
         int chosenPlayer() {
@@ -1165,16 +1150,13 @@ public final class ShiftIsles {
         }
 
         private static int dueAfterLetter(char c) {
-            switch (c) {
-                case 's':
-                    return SHIFT_PLAYER;
-                case 'g':
-                    return GO_PLACE;
-                case 'l':
-                    return LOCK_LINE;
-                default:
-                    return NONE;
+            if (c == 's') {
+                return SHIFT_PLAYER;
             }
+            if (c == 'g') {
+                return GO_PLACE;
+            }
+            return c == 'l' ? LOCK_LINE : NONE;
         }
     }
 }

@@ -42,6 +42,26 @@ public final class ActionTest {
         Check.same("whatever there was", Look.at(x), Look.at(y));
         x.undo();
         Check.same("begin() is taken back", Look.at(x), before);
+        beginAnyTime();
+    }
+
+    private static void beginAnyTime() {
+        String due = Look.at(Look.game(4, 77));
+        ShiftIsles x = Look.game(2, 5);
+        x.shift(1, 0, 1);
+        x.begin(4, 77);
+        Check.same("in a turn", Look.at(x), due);
+        x.play();
+        x.begin(4, 77);
+        Check.same("in another's turn", Look.at(x), due);
+        x.set(1, 1);
+        while (x.about(5) < 0) {
+            x.shift(1 - Math.min(1, x.about(1)), 0, 1);
+            x.go(x.player(x.about(1), x.player(x.about(1), 8) == 1 ? 3 : 0));
+        }
+        x.set(1, 3);
+        x.begin(4, 77);
+        Check.same("when one has won", Look.at(x), due);
     }
 
     /** The new game, drawn here once more, for seeds of all kinds. */

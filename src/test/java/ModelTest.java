@@ -1,6 +1,9 @@
 import java.util.Random;
 
-/** Runs of drawn calls, each answered by ShiftIsles and by the Model; the draws are always the same. */
+/**
+ * Runs of drawn calls, each answered by ShiftIsles and by the Model; the draws are always the same.
+ * Some runs are longer than the 512 calls that are promised, so that more games come to their end.
+ */
 public final class ModelTest {
     private static final int RUNS = 600;
     private static final int CALLS = 200;

@@ -137,6 +137,7 @@ public final class TextTest {
         x.set(1, 5);
         x.set(2, 200);
         x.play();
+        x.shift(0, 0, 0);
         x.save(0);
         x.save(1);
         Check.eq("load()", x.load(), 0);

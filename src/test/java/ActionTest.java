@@ -21,14 +21,17 @@ public final class ActionTest {
 
     private static void begin() {
         ShiftIsles x = new ShiftIsles();
+        Check.sentence("Throws IllegalArgumentException if players is out of range");
         Check.fails("begin(1, 0)", x, Check.ARGUMENT, () -> x.begin(1, 0));
         Check.fails("begin(5, 0)", x, Check.ARGUMENT, () -> x.begin(5, 0));
         Check.fails("begin(-1, 0)", x, Check.ARGUMENT, () -> x.begin(-1, 0));
         Check.fails("undo()", Check.STATE, x::undo);
         x.set(0, 7);
         x.set(1, 1);
+        Check.sentence("Returns the treasure that the player 0 seeks.");
         Check.eq("begin(3, 2026)", x.begin(3, 2026), 5);
         Check.eq("begin(2, 5)", x.begin(2, 5), 1);
+        Check.sentence("Begins a new game, whatever there is; the settings stay.");
         Check.eq("the settings stay", x.setting(0) * 10 + x.setting(1), 71);
         x.shift(1, 0, 1);
         x.lock(2);
@@ -41,11 +44,13 @@ public final class ActionTest {
         y.set(1, 1);
         Check.same("whatever there was", Look.at(x), Look.at(y));
         x.undo();
+        Check.sentence("Before each action, the state is remembered.");
         Check.same("begin() is taken back", Look.at(x), before);
         beginAnyTime();
     }
 
     private static void beginAnyTime() {
+        Check.sentence("Begins a new game, whatever there is");
         String due = Look.at(Look.game(4, 77));
         ShiftIsles x = Look.game(2, 5);
         x.shift(1, 0, 1);
@@ -138,8 +143,10 @@ public final class ActionTest {
                         Check.same("tile " + n + " of line " + line, after[n], before[to]);
                     }
                 }
-                Check.same("the own board", Look.board(x, 0), own);
+                Check.sentence("Returns the places that the ship of p can reach then, how many.");
                 Check.eq("shift()", answer, Integer.bitCount(x.player(1, 7)));
+                Check.sentence("The player whose turn it is shifts a line.");
+                Check.same("the own board", Look.board(x, 0), own);
                 Check.eq("line", x.player(1, 5), line);
                 Check.eq("direction", x.player(1, 6), direction);
                 Check.eq("line of the own board", x.player(0, 5), -1);
@@ -151,6 +158,7 @@ public final class ActionTest {
 
     private static void shiftFails() {
         ShiftIsles x = new ShiftIsles();
+        Check.sentence("Throws IndexOutOfBoundsException if there is no such player or line");
         Check.fails("shift() without a game", x, Check.BOUNDS, () -> x.shift(1, 0, 0));
         x.begin(3, 2026);
         Check.fails("player 3", x, Check.BOUNDS, () -> x.shift(3, 0, 0));
@@ -158,9 +166,12 @@ public final class ActionTest {
         Check.fails("line 6", x, Check.BOUNDS, () -> x.shift(1, 6, 0));
         Check.fails("line -1", x, Check.BOUNDS, () -> x.shift(1, -1, 0));
         Check.fails("line 6, direction 2", x, Check.BOUNDS, () -> x.shift(1, 6, 2));
+        Check.sentence("Throws IllegalArgumentException if direction is out of range");
         Check.fails("direction 2", x, Check.ARGUMENT, () -> x.shift(1, 0, 2));
         Check.fails("direction -1", x, Check.ARGUMENT, () -> x.shift(1, 0, -1));
         Check.fails("own board, direction 2", x, Check.ARGUMENT, () -> x.shift(0, 0, 2));
+        Check.sentence("Throws IllegalStateException if the game is over, a line has been shifted in"
+                + " this turn, it is the own board, or the shift is not possible");
         Check.fails("own board", x, Check.STATE, () -> x.shift(0, 0, 0));
         x.shift(1, 0, 0);
         Check.fails("a second one", x, Check.STATE, () -> x.shift(2, 0, 0));
@@ -201,6 +212,8 @@ public final class ActionTest {
 
     private static void go() {
         ShiftIsles x = new ShiftIsles();
+        Check.sentence("Throws IllegalStateException if there is no game, it is over, no line has been"
+                + " shifted in this turn, or the ship cannot go there");
         Check.fails("go(0) without a game", x, Check.STATE, () -> x.go(0));
         Check.fails("go(9) without a game", x, Check.BOUNDS, () -> x.go(9));
         x.begin(3, 2026);
@@ -215,12 +228,14 @@ public final class ActionTest {
                 Check.fails("go(" + n + ")", x, Check.STATE, () -> x.go(to));
             }
         }
+        Check.sentence("The player whose turn it is goes with the ship, or stays; the turn ends.");
         // At the place 3 there is the treasure 4, but 5 is sought.
         Check.eq("go(3)", x.go(3), 0);
         Check.eq("the ship", x.player(0, 0), 3);
         Check.eq("taken", x.player(0, 1), 0);
         Check.eq("the treasure is still there", x.tile(0, 3, 1), 4);
         Check.eq("the turn", x.about(1), 1);
+        Check.sentence("Returns the treasure that is taken; 0 if none is.");
         ShiftIsles z = Look.game(3, 2026);
         z.set(1, 1);
         z.shift(1, 0, 1);
@@ -273,6 +288,8 @@ public final class ActionTest {
 
     private static void lock() {
         ShiftIsles x = new ShiftIsles();
+        Check.sentence("Throws IllegalStateException if there is no game, it is over, or no line has"
+                + " been shifted in this turn");
         Check.fails("lock(0) without a game", x, Check.STATE, () -> x.lock(0));
         Check.fails("lock(6) without a game", x, Check.BOUNDS, () -> x.lock(6));
         x.begin(3, 2026);
@@ -281,7 +298,9 @@ public final class ActionTest {
         x.shift(1, 0, 1);
         Check.fails("line 6", x, Check.BOUNDS, () -> x.lock(6));
         Check.fails("line -1", x, Check.BOUNDS, () -> x.lock(-1));
+        Check.sentence("Returns whose turn it is then, NONE if the game is over.");
         Check.eq("lock(2)", x.lock(2), 1);
+        Check.sentence("The player whose turn it is locks a line of the own board; the turn ends.");
         Check.eq("locked", x.player(0, 4), 2);
         Check.eq("ended", x.about(3), 1);
         Check.eq("the ship stays", x.player(0, 0), 4);
@@ -311,6 +330,7 @@ public final class ActionTest {
         x.shift(1, 0, 0);
         Check.eq("lock(3)", x.lock(3), 1);
         x.shift(0, 0, 0);
+        Check.sentence("Returns whose turn it is then, NONE if the game is over.");
         Check.eq("lock(4)", x.lock(4), -1);
         Check.eq("over", x.about(4), 1);
         Check.eq("nobody has won", x.about(5), -1);
@@ -361,12 +381,16 @@ public final class ActionTest {
 
     private static void play() {
         ShiftIsles x = new ShiftIsles();
+        Check.sentence("Throws IllegalStateException if there is no game, or it is over");
         Check.fails("play() without a game", x, Check.STATE, x::play);
         x.begin(3, 2026);
         int p = x.worstShift(0);
         int line = x.worstShift(1);
         int direction = x.worstShift(2);
+        Check.sentence("Returns the treasure that is taken; 0 if none is.");
         Check.eq("play()", x.play(), 5);
+        Check.sentence("plays by rule what is left of the turn: shifts, if no line has been shifted in"
+                + " this turn, and goes.");
         Check.eq("the board", p, 1);
         Check.eq("the line", x.player(p, 5), line);
         Check.eq("the direction", x.player(p, 6), direction);
@@ -414,11 +438,14 @@ public final class ActionTest {
         int[] most = {9, 5, 200};
         for (int what = 0; what < 3; what++) {
             int w = what;
+            Check.sentence("Throws IllegalArgumentException if what or v is out of range");
             Check.fails("too low", x, Check.ARGUMENT, () -> x.set(w, 0));
             Check.fails("negative", x, Check.ARGUMENT, () -> x.set(w, -1));
             Check.fails("too high", x, Check.ARGUMENT, () -> x.set(w, most[w] + 1));
+            Check.sentence("Changes a setting.");
             Check.eq("set()", x.set(what, most[what]), first[what]);
             Check.eq("setting()", x.setting(what), most[what]);
+            Check.sentence("Returns the previous one.");
             Check.eq("set()", x.set(what, 1), most[what]);
             Check.eq("setting()", x.setting(what), 1);
         }
@@ -429,6 +456,7 @@ public final class ActionTest {
 
     private static void undo() {
         ShiftIsles x = new ShiftIsles();
+        Check.sentence("Takes back the last action that is remembered.");
         Check.fails("undo() at first", x, Check.STATE, x::undo);
         x.set(0, 4);
         Check.eq("undo() of nothing different", x.undo(), 0);
@@ -453,6 +481,7 @@ public final class ActionTest {
     }
 
     private static void undoOfEach() {
+        Check.sentence("Before each action, the state is remembered.");
         ShiftIsles x = new ShiftIsles();
         String nothing = Look.at(x);
         x.begin(3, 2026);

@@ -10,8 +10,24 @@ final class Check {
 
     private static int wrong;
     private static int made;
+    private static String sentence = "";
+    private static int madeBefore;
 
     private Check() {
+    }
+
+    /** The words of the document that the checks from here on are about; each has one at least. */
+    static void sentence(String words) {
+        everySentenceIsChecked();
+        sentence = words;
+        madeBefore = made;
+    }
+
+    private static void everySentenceIsChecked() {
+        if (!sentence.isEmpty() && made == madeBefore) {
+            wrong++;
+            System.out.println("nothing is checked of: " + sentence);
+        }
     }
 
     static void same(String what, Object got, Object due) {
@@ -19,7 +35,8 @@ final class Check {
         if (!due.equals(got)) {
             wrong++;
             if (wrong <= 50) {
-                System.out.println(what + " answered " + got + ", due is " + due);
+                System.out.println(what + " answered " + got + ", due is " + due
+                        + (sentence.isEmpty() ? "" : ": " + sentence));
             }
         }
     }
@@ -55,6 +72,7 @@ final class Check {
     }
 
     static void end() {
+        everySentenceIsChecked();
         System.out.println(made + " checks, " + wrong + " wrong");
         if (wrong != 0) {
             System.exit(1);

@@ -55,6 +55,64 @@ final class Look {
         return x;
     }
 
+    /** What a game must be like. */
+    interface Wish {
+        boolean holds(ShiftIsles x);
+    }
+
+    /** The new game of the lowest seed that is as wished; the wish may not change it. */
+    static ShiftIsles seek(int players, String what, Wish wish) {
+        for (long seed = 0; seed < 50000; seed++) {
+            ShiftIsles x = game(players, seed);
+            if (wish.holds(x)) {
+                return x;
+            }
+        }
+        throw new AssertionError("no game where " + what);
+    }
+
+    /** The player whose turn it is stays where the ship is. */
+    static int stay(ShiftIsles x) {
+        return x.go(x.player(x.about(1), 0));
+    }
+
+    /** A whole turn: the shift, and the ship stays. */
+    static int turn(ShiftIsles x, int p, int line, int direction) {
+        x.shift(p, line, direction);
+        return stay(x);
+    }
+
+    /** Some shift that is possible, of the next player's board. */
+    static void someShift(ShiftIsles x) {
+        int p = (x.about(1) + 1) % x.about(0);
+        for (int k = 0; k < 12; k++) {
+            if (x.canShift(p, k / 2, k % 2)) {
+                x.shift(p, k / 2, k % 2);
+                return;
+            }
+        }
+        throw new AssertionError("no shift is possible");
+    }
+
+    /** A whole turn in which no treasure is taken. */
+    static int idle(ShiftIsles x) {
+        someShift(x);
+        return x.lock(0);
+    }
+
+    /** A whole turn: the next player's board is shifted so that its sought treasure can be taken. */
+    static int kind(ShiftIsles x) {
+        int p = (x.about(1) + 1) % x.about(0);
+        int best = -1;
+        for (int k = 0; k < 12; k++) {
+            if (x.canShift(p, k / 2, k % 2) && (best < 0 || x.ifShifted(p, k / 2, k % 2, 1) == 1)) {
+                best = k;
+            }
+        }
+        x.shift(p, best / 2, best % 2);
+        return x.play();
+    }
+
     static int bit(int set, int n) {
         return set >> n & 1;
     }

@@ -13,6 +13,7 @@ public final class TextTest {
 
     private static void newObject() {
         ShiftIsles x = new ShiftIsles();
+        Check.sentence("Creates the sea without a game.");
         Check.same("a new object", Look.at(x), "text 0 about 0 about 0 about 0 about 0 about 0"
                 + " about -1 setting 4 setting 3 setting 60");
         Check.eq("length of the text", x.clearText(), 0);
@@ -23,13 +24,16 @@ public final class TextTest {
 
     private static void append() {
         ShiftIsles x = new ShiftIsles();
+        Check.sentence("Throws IllegalArgumentException if c is out of range");
         Check.fails("append(-1)", x, Check.ARGUMENT, () -> x.append(-1));
         Check.fails("append(256)", x, Check.ARGUMENT, () -> x.append(256));
+        Check.sentence("Appends a character to the text buffer.");
         Check.eq("append(0)", x.append(0), 1);
         Check.eq("append(255)", x.append(255), 2);
         for (int length = 3; length <= 120; length++) {
             Check.eq("append('x')", x.append('x'), length);
         }
+        Check.sentence("Throws IllegalStateException if the text already has 120 characters");
         Check.fails("append at 120", x, Check.STATE, () -> x.append('x'));
         Check.fails("append(256) at 120", x, Check.ARGUMENT, () -> x.append(256));
         Check.fails("append(-1) at 120", x, Check.ARGUMENT, () -> x.append(-1));
@@ -38,6 +42,7 @@ public final class TextTest {
 
     private static void clearText() {
         ShiftIsles x = Look.text("I200");
+        Check.sentence("Empties the text buffer. Returns the previous length of the text.");
         Check.eq("clearText()", x.clearText(), 4);
         Check.eq("clearText() again", x.clearText(), 0);
         Check.eq("errorPosition()", x.errorPosition(), 0);
@@ -49,6 +54,7 @@ public final class TextTest {
     }
 
     private static void errorPosition() {
+        Check.sentence("Returns the error position of the text; NONE if it is a game.");
         position("", 0);
         position("i", 0);
         position("2", 0);
@@ -102,6 +108,7 @@ public final class TextTest {
     }
 
     private static void load() {
+        Check.sentence("and then does the moves of the text");
         // The run of the shared tests: 8 moves of it are not possible.
         ShiftIsles x = Look.loaded("I417s10+g4s03-l1s35+g4s20-g5s11-g4s01+s05-l5s30-g1s22+g4g4");
         Check.eq("whose turn", x.about(1), 1);
@@ -131,6 +138,7 @@ public final class TextTest {
     }
 
     private static void loadMakesNew() {
+        Check.sentence("Makes everything as in a new object");
         ShiftIsles x = Look.text("I250");
         x.begin(4, 8);
         x.set(0, 9);
@@ -149,6 +157,7 @@ public final class TextTest {
     }
 
     private static void loadThatFails() {
+        Check.sentence("Throws IllegalStateException if the text is not a game");
         for (String text : new String[] {"", "I", "I20", "I200s", "I200g9", "I500", "I200 "}) {
             ShiftIsles x = Look.text(text);
             x.begin(4, 8);

@@ -4,6 +4,7 @@ public final class WouldBeTest {
         canShift();
         ifShifted();
         ifShiftedAsShifted();
+        ifShiftedPossibleOrNot();
         worstShift();
         worstShiftOfAll();
         steps();
@@ -12,6 +13,7 @@ public final class WouldBeTest {
     }
 
     private static void canShift() {
+        Check.sentence("Throws IndexOutOfBoundsException if there is no such player or line");
         ShiftIsles x = new ShiftIsles();
         Check.fails("without a game", x, Check.BOUNDS, () -> x.canShift(0, 0, 0) ? 1 : 0);
         x.begin(3, 2026);
@@ -19,13 +21,17 @@ public final class WouldBeTest {
         Check.fails("player -1", x, Check.BOUNDS, () -> x.canShift(-1, 0, 0) ? 1 : 0);
         Check.fails("line 6", x, Check.BOUNDS, () -> x.canShift(0, 6, 0) ? 1 : 0);
         Check.fails("line -1", x, Check.BOUNDS, () -> x.canShift(0, -1, 0) ? 1 : 0);
+        Check.sentence("Throws IllegalArgumentException if direction is out of range");
         Check.fails("direction 2", x, Check.ARGUMENT, () -> x.canShift(0, 0, 2) ? 1 : 0);
         Check.fails("direction -1", x, Check.ARGUMENT, () -> x.canShift(0, 0, -1) ? 1 : 0);
         Check.fails("line and direction", x, Check.BOUNDS, () -> x.canShift(0, 6, 2) ? 1 : 0);
+        Check.sentence("Tells whether a shift of a board is possible, whoever's turn it is.");
         for (int k = 0; k < 36; k++) {
             Check.yes("at first", x.canShift(k / 12, k % 12 / 2, k % 2));
         }
         x.shift(1, 4, 0);
+        Check.sentence("Returns whether the line is not locked, and it would not take the latest shift"
+                + " back.");
         Check.no("taken back", x.canShift(1, 4, 1));
         Check.yes("once more", x.canShift(1, 4, 0));
         x.lock(2);
@@ -44,6 +50,8 @@ public final class WouldBeTest {
         ShiftIsles x = new ShiftIsles();
         Check.fails("without a game", x, Check.BOUNDS, () -> x.ifShifted(0, 0, 0, 0));
         x.begin(3, 2026);
+        Check.sentence("the places that the ship of p could reach then, as a set; 1: 1 if"
+                + " the sought treasure was at one of these, otherwise 0");
         int[] due = {48, 48, 24, 32, 48, 48, 48, 48, 2, 384, 48, 16};
         for (int k = 0; k < 12; k++) {
             Check.eq("ifShifted(1, " + k / 2 + ", " + k % 2 + ", 0)",
@@ -54,10 +62,12 @@ public final class WouldBeTest {
         // The ship of 0 stands on the sought treasure and goes with it.
         Check.eq("the own board", x.ifShifted(0, 1, 1, 1), 1);
         Check.eq("the ship goes with its tile", Look.bit(x.ifShifted(0, 1, 1, 0), 5), 1);
+        Check.sentence("Throws IndexOutOfBoundsException if there is no such player or line");
         Check.fails("player 3", x, Check.BOUNDS, () -> x.ifShifted(3, 0, 0, 0));
         Check.fails("player -1", x, Check.BOUNDS, () -> x.ifShifted(-1, 0, 0, 0));
         Check.fails("line 6", x, Check.BOUNDS, () -> x.ifShifted(0, 6, 0, 0));
         Check.fails("line -1", x, Check.BOUNDS, () -> x.ifShifted(0, -1, 0, 0));
+        Check.sentence("Throws IllegalArgumentException if direction or what is out of range");
         Check.fails("direction 2", x, Check.ARGUMENT, () -> x.ifShifted(0, 0, 2, 0));
         Check.fails("direction -1", x, Check.ARGUMENT, () -> x.ifShifted(0, 0, -1, 0));
         Check.fails("what 2", x, Check.ARGUMENT, () -> x.ifShifted(0, 0, 0, 2));
@@ -66,6 +76,7 @@ public final class WouldBeTest {
     }
 
     private static void ifShiftedAsShifted() {
+        Check.sentence("Tells what a shift of a board would leave");
         for (long seed = 0; seed < 30; seed++) {
             ShiftIsles x = Look.game(2, seed);
             x.set(0, 1 + (int) (seed % 9));
@@ -90,6 +101,38 @@ public final class WouldBeTest {
         Check.eq("what is locked", y.ifShifted(0, 3, 1, 0) > 0 ? 1 : 0, 1);
     }
 
+    private static void ifShiftedPossibleOrNot() {
+        Check.sentence("Tells what a shift of a board would leave, whether it is possible, or not.");
+        for (long seed = 0; seed < 20; seed++) {
+            ShiftIsles x = Look.game(2, seed);
+            x.set(1, 5);
+            allShifts(x);
+            x.shift(1, (int) seed % 6, 1);
+            allShifts(x);
+            x.lock((int) seed % 5);
+            allShifts(x);
+            x.set(2, 1);
+            x.play();
+            Check.eq("over", x.about(4), 1);
+            allShifts(x);
+        }
+    }
+
+    private static void allShifts(ShiftIsles x) {
+        String before = Look.at(x);
+        for (int k = 0; k < 24; k++) {
+            int p = k / 12;
+            int line = k % 12 / 2;
+            boolean possible = x.canShift(p, line, k % 2);
+            int reach = new Chart(x, p).shifted(line, k % 2).reach(4);
+            int place = new Chart(x, p).shifted(line, k % 2).placeOf(x.player(p, 2));
+            Check.eq("the places", x.ifShifted(p, line, k % 2, 0), reach);
+            Check.eq("the treasure", x.ifShifted(p, line, k % 2, 1), Look.bit(reach, place));
+            Check.eq("canShift()", x.canShift(p, line, k % 2) ? 1 : 0, possible ? 1 : 0);
+        }
+        Check.same("nothing is changed", Look.at(x), before);
+    }
+
     private static void worst(String when, ShiftIsles x, int... due) {
         for (int what = 0; what < 3; what++) {
             Check.eq("worstShift(" + what + ") " + when, x.worstShift(what), due[what]);
@@ -98,11 +141,15 @@ public final class WouldBeTest {
 
     private static void worstShift() {
         ShiftIsles x = new ShiftIsles();
+        Check.sentence("NONE if there is no game, it is over, or a line has been shifted in this turn.");
         worst("without a game", x, -1, -1, -1);
+        Check.sentence("Throws IllegalArgumentException if what is not 0 to 2");
         Check.fails("worstShift(-1)", x, Check.ARGUMENT, () -> x.worstShift(-1));
         Check.fails("worstShift(3)", x, Check.ARGUMENT, () -> x.worstShift(3));
         x.begin(3, 2026);
+        Check.sentence("the player whose board it is; 1: the line; 2: the direction");
         worst("at first", x, 1, 1, 1);
+        Check.sentence("NONE if there is no game, it is over, or a line has been shifted in this turn.");
         x.shift(2, 0, 0);
         worst("when one has been shifted", x, -1, -1, -1);
         Check.fails("worstShift(3) then", x, Check.ARGUMENT, () -> x.worstShift(3));
@@ -113,6 +160,7 @@ public final class WouldBeTest {
 
     /** No shift that is possible leaves less; of those that leave as little, none comes before. */
     private static void worstShiftOfAll() {
+        Check.sentence("Finds the shift by rule for the player whose turn it is.");
         for (long seed = 0; seed < 60; seed++) {
             ShiftIsles x = Look.game(2 + (int) (seed % 3), seed);
             x.set(0, 1 + (int) (seed % 9));
@@ -144,12 +192,15 @@ public final class WouldBeTest {
 
     private static void steps() {
         ShiftIsles x = new ShiftIsles();
+        Check.sentence("Throws IndexOutOfBoundsException if there is no such player or place");
         Check.fails("without a game", x, Check.BOUNDS, () -> x.steps(0, 0));
         x.begin(3, 2026);
         Check.fails("player 3", x, Check.BOUNDS, () -> x.steps(3, 0));
         Check.fails("player -1", x, Check.BOUNDS, () -> x.steps(-1, 0));
         Check.fails("place 9", x, Check.BOUNDS, () -> x.steps(0, 9));
         Check.fails("place -1", x, Check.BOUNDS, () -> x.steps(0, -1));
+        Check.sentence("Returns the fewest steps to it, however many a turn has, 0 where the ship is; NONE if there"
+                + " are none.");
         int[] due = {-1, 1, -1, -1, 0, -1, -1, 1, 2};
         for (int most = 1; most <= 9; most++) {
             x.set(0, most);
@@ -183,16 +234,21 @@ public final class WouldBeTest {
 
     private static void goesOn() {
         ShiftIsles x = new ShiftIsles();
+        Check.sentence("NONE without a game.");
         for (int what = 0; what < 3; what++) {
             Check.eq("goesOn(" + what + ") without a game", x.goesOn(what), -1);
         }
+        Check.sentence("Throws IllegalArgumentException if what is not 0 to 2");
         Check.fails("goesOn(-1)", x, Check.ARGUMENT, () -> x.goesOn(-1));
         Check.fails("goesOn(3)", x, Check.ARGUMENT, () -> x.goesOn(3));
         x.begin(3, 2026);
+        Check.sentence("who has won then, NONE if nobody has; 1: the turns that have ended then; 2: the"
+                + " treasures that all have taken then, how many");
         Check.eq("goesOn(0)", x.goesOn(0), -1);
         Check.eq("goesOn(1)", x.goesOn(1), 60);
         Check.eq("goesOn(2)", x.goesOn(2), 1);
         Check.fails("goesOn(3)", x, Check.ARGUMENT, () -> x.goesOn(3));
+        Check.sentence("Tells how the game would end, if all played by rule from now on.");
         int won = 0;
         for (long seed = 0; seed < 60; seed++) {
             won += playedOut(seed) >= 0 ? 1 : 0;

@@ -922,6 +922,9 @@ public final class ShiftIsles {
 
     /** The player who plays by rule. */
     private static final class Rule {
+        // More than any shift can leave to a player, and than any place can be apart.
+        private static final int ABOVE_ALL = 100;
+
         private final Board scratch;
         private int player;
         private int line;
@@ -960,7 +963,7 @@ public final class ShiftIsles {
             player = NONE;
             line = NONE;
             direction = NONE;
-            leftByChosen = Integer.MAX_VALUE;
+            leftByChosen = ABOVE_ALL;
             for (int p = 0; p < game.players(); p++) {
                 for (int candidate = 0; candidate < LINES; candidate++) {
                     consider(game, p, candidate, 0);
@@ -995,7 +998,7 @@ public final class ShiftIsles {
             int goal = own.soughtPlace();
             int reach = own.reach(game.settingOf(STEPS));
             int best = own.ship();
-            int least = goal == NONE ? 0 : Integer.MAX_VALUE;
+            int least = goal == NONE ? 0 : ABOVE_ALL;
             for (int n = 0; n < TILES; n++) {
                 int distance = Math.abs(n / 3 - goal / 3) + Math.abs(n % 3 - goal % 3);
                 if (isIn(reach, n) && distance < least) {

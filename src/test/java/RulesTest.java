@@ -15,11 +15,20 @@ public final class RulesTest {
         "\\bRandom\\b", "[a-z]Exact\\b", "\\bprotected\\b", "\\bwhile\\b", "[^\\x00-\\x7f]",
     };
 
+    /** The static members of the library that the class uses; others must be looked up first. */
+    private static final Pattern USE =
+            Pattern.compile("\\b(Integer|Long|Math|Arrays|System|List|String|Character|Objects)\\.\\w+");
+    private static final List<String> LIBRARY = List.of(
+            "Integer.bitCount", "Math.abs", "Math.max", "Math.min", "System.arraycopy");
+
     public static void main(String[] args) throws IOException {
         List<String> lines = Files.readAllLines(SOURCE);
         for (String line : lines) {
             for (String pattern : FORBIDDEN) {
                 Check.no(pattern + " in: " + line, Pattern.compile(pattern).matcher(line).find());
+            }
+            for (Matcher use = USE.matcher(line); use.find();) {
+                Check.yes("of the library: " + use.group(), LIBRARY.contains(use.group()));
             }
             Check.yes("a line of at most 100 characters: " + line, line.length() <= 100);
         }

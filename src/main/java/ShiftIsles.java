@@ -352,22 +352,25 @@ public final class ShiftIsles {
         if (n < 1 || n > MOST_COMMANDS) {
             throw new IllegalArgumentException("a script has 1 to 3 commands");
         }
-        long unit = 1;
-        for (int i = 1; i < n; i++) {
-            unit *= GROUP;
-        }
-        if (script < 0 || script / GROUP >= unit) {
+        if (script < 0 || withoutLast(n, script) != 0) {
             throw new IllegalArgumentException("a script has four digits for a command");
         }
         trial.copyFrom(state);
         for (int i = 0; i < n; i++) {
-            if (!succeeds((int) (script / unit % GROUP))) {
+            if (!succeeds((int) (withoutLast(n - 1 - i, script) % GROUP))) {
                 return i;
             }
-            // Kept above 0, since it is what the next round divides by.
-            unit = Math.max(1, unit / GROUP);
         }
         return NONE;
+    }
+
+    /** A script without so many of its commands, the last ones. */
+    private static long withoutLast(int commands, long script) {
+        long rest = script;
+        for (int i = 0; i < commands; i++) {
+            rest /= GROUP;
+        }
+        return rest;
     }
 
     /** Does a command of a script on the copy of the state; false if it fails. */

@@ -25,10 +25,41 @@ public final class FaceTest {
         methods();
         constructors();
         fields();
+        hidden(ShiftIsles.class);
         for (Class<?> inside : ShiftIsles.class.getDeclaredClasses()) {
             Check.no("public class inside " + inside, Modifier.isPublic(inside.getModifiers()));
+            Check.no("protected class inside " + inside, Modifier.isProtected(inside.getModifiers()));
+            Check.yes("static class inside " + inside, Modifier.isStatic(inside.getModifiers()));
+            hidden(inside);
         }
         Check.end();
+    }
+
+    /** Rules 1, 5 and 11 of ../shared/LANGUAGE.md, for the class and for those inside it. */
+    private static void hidden(Class<?> owner) {
+        int ownFields = 0;
+        for (Field field : owner.getDeclaredFields()) {
+            if (Modifier.isStatic(field.getModifiers())) {
+                Check.yes(field + " is final", Modifier.isFinal(field.getModifiers()));
+            } else {
+                ownFields++;
+            }
+        }
+        Check.yes("some twenty fields of " + owner, ownFields <= 20);
+        for (Method method : owner.getDeclaredMethods()) {
+            Check.yes("parameters of " + method, method.getParameterCount() <= 7);
+            boolean isFace = owner == ShiftIsles.class && Modifier.isPublic(method.getModifiers());
+            Check.yes(method + " has a name of its own", isFace || !isNameOfFace(method.getName()));
+        }
+    }
+
+    private static boolean isNameOfFace(String name) {
+        for (String due : FACE) {
+            if (due.contains(" " + name + "(")) {
+                return true;
+            }
+        }
+        return false;
     }
 
     private static void methods() {

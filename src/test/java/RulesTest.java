@@ -19,7 +19,7 @@ public final class RulesTest {
     private static final Pattern USE =
             Pattern.compile("\\b(Integer|Long|Math|Arrays|System|List|String|Character|Objects)\\.\\w+");
     private static final List<String> LIBRARY = List.of(
-            "Integer.bitCount", "Math.abs", "Math.max", "Math.min", "System.arraycopy");
+            "Integer.bitCount", "Math.abs", "Math.min", "System.arraycopy");
 
     public static void main(String[] args) throws IOException {
         List<String> lines = Files.readAllLines(SOURCE);

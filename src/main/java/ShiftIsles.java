@@ -107,7 +107,6 @@ public final class ShiftIsles {
 
     // ---- what there is
 
-    /** Returns a number of the game. */
     public int about(int what) throws IllegalArgumentException {
         switch (what) {
             case 0:
@@ -127,7 +126,6 @@ public final class ShiftIsles {
         }
     }
 
-    /** Returns a number of a tile. */
     public int tile(int p, int n, int what)
             throws IndexOutOfBoundsException, IllegalArgumentException {
         if (!state.hasPlayer(p) || !isPlace(n)) {
@@ -146,7 +144,6 @@ public final class ShiftIsles {
         }
     }
 
-    /** Returns a number of a player. */
     public int player(int p, int what) throws IndexOutOfBoundsException, IllegalArgumentException {
         if (!state.hasPlayer(p)) {
             throw new IndexOutOfBoundsException("no such player");
@@ -176,7 +173,6 @@ public final class ShiftIsles {
         }
     }
 
-    /** Returns a setting. */
     public int setting(int what) throws IllegalArgumentException {
         if (!isSetting(what)) {
             throw new IllegalArgumentException("what is 0 to 2");
@@ -364,7 +360,7 @@ public final class ShiftIsles {
         return NONE;
     }
 
-    /** A script without so many of its commands, the last ones. */
+    // Divides by a constant alone, so that no divisor can be 0.
     private static long withoutLast(int commands, long script) {
         long rest = script;
         for (int i = 0; i < commands; i++) {
@@ -672,7 +668,6 @@ public final class ShiftIsles {
             }
         }
 
-        /** The places that the ship can reach with so many steps, as a set. */
         int reach(int most) {
             int across = openAcross();
             int down = openDown();
@@ -697,7 +692,7 @@ public final class ShiftIsles {
             return NONE;
         }
 
-        /** The places of the set, and those one step away from one of them. */
+        // All places of a set are gone from at once, so that no ways need be kept.
         private static int widened(int set, int across, int down) {
             int beside = (set & across) << 1 | set >> 1 & across;
             int above = (set & down) << 3 | set >> 3 & down;
@@ -923,7 +918,6 @@ public final class ShiftIsles {
         }
     }
 
-    /** The player who plays by rule. */
     private static final class Rule {
         // More than any shift can leave to a player, and than any place can be apart.
         private static final int ABOVE_ALL = 100;
